@@ -802,9 +802,9 @@ public final class RescanMill {
         private int fuel;
         private int lines;
 
-        void begin(Bytes text, int fuel) {
-            this.text = text;
-            this.fuel = fuel;
+        void begin(Bytes wholeText, int wholeFuel) {
+            text = wholeText;
+            fuel = wholeFuel;
             taken = 0;
             lines = 0;
             textAt = 0;
@@ -1308,10 +1308,10 @@ public final class RescanMill {
         private boolean valueDue;
         private boolean byZero;
 
-        int evaluate(Bytes source, int start, int length, Bytes result) {
-            begin(source, start, start + length);
+        int evaluate(Bytes bytes, int start, int length, Bytes result) {
+            begin(bytes, start, start + length);
             for (int k = 0; k < length && at < end; k++) {
-                int b = this.source.at(at);
+                int b = source.at(at);
                 boolean fits;
                 if (isSpace(b)) {
                     at++;
@@ -1339,10 +1339,10 @@ public final class RescanMill {
             return 0;
         }
 
-        private void begin(Bytes source, int start, int end) {
-            this.source = source;
+        private void begin(Bytes bytes, int start, int behind) {
+            source = bytes;
             at = start;
-            this.end = end;
+            end = behind;
             valueCount = 0;
             waitingCount = 0;
             nested = 0;
@@ -1456,70 +1456,36 @@ public final class RescanMill {
                 if (operator == null || operator.strength < strength) {
                     return;
                 }
+                if (valueCount < 1 || valueCount > values.length) {
+                    return;
+                }
                 waitingCount--;
-                if (operator.isBetween()) {
-                    useOnTwo(operator);
-                } else {
+                int value = values[valueCount - 1];
+                if (!operator.isBetween()) {
                     nested--;
-                    useOnOne(operator);
+                    values[valueCount - 1] = ofOne(operator, value);
+                } else if (valueCount > 1) {
+                    valueCount--;
+                    values[valueCount - 1] = ofTwo(operator, values[valueCount - 1], value);
                 }
             }
         }
 
-        private void useOnOne(Operator operator) {
-            if (valueCount < 1 || valueCount > values.length) {
-                return;
-            }
-            int value = values[valueCount - 1];
+        private static int ofOne(Operator operator, int value) {
             switch (operator) {
                 case NEGATE:
-                    value = -value;
-                    break;
+                    return -value;
                 case INVERT:
-                    value = ~value;
-                    break;
+                    return ~value;
                 case NOT:
-                    value = value == 0 ? 1 : 0;
-                    break;
+                    return value == 0 ? 1 : 0;
                 default:
-                    break;
-            }
-            values[valueCount - 1] = value;
-        }
-
-        private void useOnTwo(Operator operator) {
-            if (valueCount < 2 || valueCount > values.length) {
-                return;
-            }
-            int left = values[valueCount - 2];
-            int right = values[valueCount - 1];
-            valueCount--;
-            if (right == 0 && (operator == Operator.DIVIDE || operator == Operator.REMAINDER)) {
-                byZero = true;
-                right = 1;
-            }
-            values[valueCount - 1] = operator.strength < Operator.ADD.strength
-                    ? compareOrMask(operator, left, right) : count(operator, left, right);
-        }
-
-        private static int count(Operator operator, int left, int right) {
-            switch (operator) {
-                case ADD:
-                    return left + right;
-                case SUBTRACT:
-                    return left - right;
-                case MULTIPLY:
-                    return left * right;
-                case DIVIDE:
-                    return right == 0 ? 0 : left / right;
-                case REMAINDER:
-                    return right == 0 ? 0 : left % right;
-                default:
-                    return 0;
+                    return value;
             }
         }
 
-        private static int compareOrMask(Operator operator, int left, int right) {
+        /** A division by 0 is only noted: the rest may still show that there is no expression at all. */
+        private int ofTwo(Operator operator, int left, int right) {
             switch (operator) {
                 case OR:
                     return left != 0 || right != 0 ? 1 : 0;
@@ -1547,6 +1513,18 @@ public final class RescanMill {
                     return left << (right & 31);
                 case SHIFT_RIGHT:
                     return left >> (right & 31);
+                case ADD:
+                    return left + right;
+                case SUBTRACT:
+                    return left - right;
+                case MULTIPLY:
+                    return left * right;
+                case DIVIDE:
+                    byZero |= right == 0;
+                    return right == 0 ? 0 : left / right;
+                case REMAINDER:
+                    byZero |= right == 0;
+                    return right == 0 ? 0 : left % right;
                 default:
                     return 0;
             }
