@@ -2,7 +2,7 @@
 public final class AgainTest {
     public static void main(String[] args) {
         Desk desk = new Desk();
-        RescanMill mill = Desk.fed("abcde");
+        Mill mill = Desk.fed("abcde");
         int[][] bad = {{0, 0}, {0, -1}, {-1, 1}, {-1, 2}, {5, 1}, {4, 2}, {0, 6}, {6, 1}, {1, 5},
             {Integer.MAX_VALUE, 1}, {1, Integer.MAX_VALUE}, {Integer.MAX_VALUE, Integer.MAX_VALUE},
             {Integer.MIN_VALUE, Integer.MIN_VALUE}, {Integer.MIN_VALUE, Integer.MAX_VALUE}, {2, Integer.MIN_VALUE}};
@@ -13,7 +13,7 @@ public final class AgainTest {
         desk.same("again(7, 1)", mill.again(7, 1), 9);
         desk.same("again(0, 9)", mill.again(0, 9), 18);
         mill.run(Desk.MUCH);
-        desk.same("what came again", Desk.outOf(mill), "abcdebcddabcdebcdd");
+        desk.same("what came again", mill.out(), "abcdebcddabcdebcdd");
 
         for (int had = 18; had < 32760; ) {
             had = mill.again(0, Math.min(had, 32760 - had));

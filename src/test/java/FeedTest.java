@@ -2,8 +2,8 @@
 public final class FeedTest {
     private static final long EIGHT = 0x6867666564636261L;
 
-    private static RescanMill filled(int n) {
-        RescanMill mill = new RescanMill();
+    private static Mill filled(int n) {
+        Mill mill = new Mill();
         mill.feed(EIGHT, 8);
         for (int had = 8; had < n; ) {
             had = mill.again(0, Math.min(had, n - had));
@@ -13,7 +13,7 @@ public final class FeedTest {
 
     public static void main(String[] args) {
         Desk desk = new Desk();
-        RescanMill mill = new RescanMill();
+        Mill mill = new Mill();
         int[] bad = {0, 9, -1, Integer.MIN_VALUE, Integer.MAX_VALUE};
         for (int n : bad) {
             desk.same("feed(.., " + n + ")", mill.feed(EIGHT, n), RescanMill.BAD);
@@ -24,9 +24,9 @@ public final class FeedTest {
             desk.same("feed(.., " + n + ")", mill.feed(EIGHT, n), had);
         }
         mill.run(Desk.MUCH);
-        desk.same("the order of bytes", Desk.outOf(mill), "aababcabcdabcdeabcdefabcdefgabcdefgh");
+        desk.same("the order of bytes", mill.out(), "aababcabcdabcdeabcdefabcdefgabcdefgh");
 
-        mill = new RescanMill();
+        mill = new Mill();
         desk.same("feed(-1, 8)", mill.feed(-1L, 8), 8);
         desk.same("feed(128 << 8, 2)", mill.feed(128L << 8, 2), 10);
         mill.run(Desk.MUCH);

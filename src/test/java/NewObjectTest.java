@@ -26,7 +26,7 @@ public final class NewObjectTest {
 
     public static void main(String[] args) {
         Desk desk = new Desk();
-        RescanMill mill = new RescanMill();
+        Mill mill = new Mill();
         desk.same("size()", mill.size(), 0);
         desk.same("word(0)", mill.word(0), 0);
         for (int what = 0; what < 4; what++) {
@@ -41,8 +41,8 @@ public final class NewObjectTest {
         desk.same("FULL", RescanMill.FULL, -3);
         desk.same("the face", face(), "[BAD, FULL, NONE, again, clear, feed, new/0, run, size, told, word]");
 
-        RescanMill one = Desk.fed("define(`a',`b')a");
-        RescanMill other = new RescanMill();
+        Mill one = Desk.fed("define(`a',`b')a");
+        Mill other = new Mill();
         one.run(100);
         desk.same("told(2) of another object", other.told(2), 0);
         desk.same("clear() of another object", other.clear(), 0);

@@ -11,6 +11,11 @@ public final class OracleTest {
     private static final String[] SPACES = {" ", "\n", "\t", "\u000b", "\f", "\r", "  ", " \n "};
     private static final String[] QUOTES = {"`", "'", "[", "]", "<<", ">>", "\"", "<", "||||", "$", "-", "\u00e4"};
 
+    /** With this many bytes to be fed by eights, an object has calls left for its runs. */
+    private static final int LONGEST = 2400;
+    /** What one text needs at most, but for feeding it and reading a long out. */
+    private static final int CALLS_KEPT = 100;
+
     private final Random random;
     private String opening = "`";
     private String closing = "'";
@@ -115,7 +120,7 @@ public final class OracleTest {
         return all.toString();
     }
 
-    private static void compare(Desk desk, RescanMill mill, String text, int fuel) {
+    private static void compare(Desk desk, Mill mill, String text, int fuel) {
         PlainMill plain = new PlainMill(text, fuel);
         String what = "the run with " + fuel + " of " + text;
         desk.same(what, mill.run(fuel), plain.error);
@@ -123,27 +128,27 @@ public final class OracleTest {
         desk.same("told(1) after " + what, mill.told(1), plain.taken);
         desk.same("told(2) after " + what, mill.told(2), plain.meanings);
         desk.same("told(3) after " + what, mill.told(3), plain.meaningBytes);
-        desk.same("the out after " + what, Desk.outOf(mill), plain.out);
+        desk.sameOut(mill, text, fuel, plain.out);
     }
 
     public static void main(String[] args) {
         Desk desk = new Desk();
         int texts = args.length > 0 ? Integer.parseInt(args[0]) : 20000;
         int firstSeed = args.length > 1 ? Integer.parseInt(args[1]) : 0;
-        RescanMill mill = new RescanMill();
+        Mill mill = new Mill();
         int[] errors = new int[41];
         for (int seed = firstSeed; seed < firstSeed + texts; seed++) {
             OracleTest maker = new OracleTest(seed);
             String text = maker.pieces(3, 30);
-            text = text.length() > 4000 ? text.substring(0, 4000) : text;
-            if (seed % 7 == 0) {
-                mill = new RescanMill();
+            text = text.length() > LONGEST ? text.substring(0, LONGEST) : text;
+            if (mill.left() < CALLS_KEPT + text.length() / 8) {
+                mill = new Mill();
             }
             mill.clear();
-            Desk.feed(mill, text);
-            compare(desk, mill, text, 3000);
-            errors[Math.max(mill.run(3000), 0)]++;
+            mill.feedText(text);
             compare(desk, mill, text, 1 + maker.random.nextInt(200));
+            errors[Math.max(mill.run(3000), 0)]++;
+            compare(desk, mill, text, 3000);
         }
         StringBuilder seen = new StringBuilder("runs by error:");
         for (int i = 0; i <= 40; i++) {

@@ -2,7 +2,7 @@
 public final class OutTest {
     public static void main(String[] args) {
         Desk desk = new Desk();
-        RescanMill mill = Desk.fed("ABCDEFGHIJ\u00ff");
+        Mill mill = Desk.fed("ABCDEFGHIJ\u00ff");
         desk.same("size() before a run", mill.size(), 0);
         desk.same("word(0) before a run", mill.word(0), 0);
         mill.run(Desk.MUCH);
@@ -22,7 +22,7 @@ public final class OutTest {
         mill.run(11);
         desk.same("size() of a run that needs all fuel", mill.size(), 11);
         mill.clear();
-        Desk.feed(mill, "12345678");
+        mill.feedText("12345678");
         desk.same("size() is of the latest run", mill.size(), 11);
         mill.run(8);
         desk.same("size() of a whole word", mill.size(), 8);

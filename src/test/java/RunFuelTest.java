@@ -1,7 +1,7 @@
 /** Promise 5: fuel, lines, and that a run begins anew. */
 public final class RunFuelTest {
     private static void cutShort(Desk desk, String text, int taken, int line) {
-        RescanMill mill = Desk.fed(text);
+        Mill mill = Desk.fed(text);
         for (int fuel = 1; fuel < taken; fuel++) {
             desk.same("run(" + fuel + ") of " + text, mill.run(fuel), 31);
             desk.same("told(1) of run(" + fuel + ") of " + text, mill.told(1), fuel);
@@ -13,7 +13,7 @@ public final class RunFuelTest {
 
     public static void main(String[] args) {
         Desk desk = new Desk();
-        RescanMill mill = Desk.fed("abc");
+        Mill mill = Desk.fed("abc");
         int[] bad = {0, -1, 400001, Integer.MIN_VALUE, Integer.MAX_VALUE};
         for (int fuel : bad) {
             desk.same("run(" + fuel + ")", mill.run(fuel), RescanMill.BAD);
@@ -32,13 +32,13 @@ public final class RunFuelTest {
         mill = Desk.fed("define(`a',`b')undefine(`len')changequote(`[',`]')divert(3)a");
         for (int i = 0; i < 3; i++) {
             desk.same("run number " + i, mill.run(Desk.MUCH), 0);
-            desk.same("the out of run number " + i, Desk.outOf(mill), "b");
+            desk.same("the out of run number " + i, mill.out(), "b");
             desk.same("told(1) of run number " + i, mill.told(1), 61);
         }
         mill.clear();
-        Desk.feed(mill, "a len(`xy') [z]");
+        mill.feedText("a len(`xy') [z]");
         mill.run(Desk.MUCH);
-        desk.same("nothing stays of the run before", Desk.outOf(mill), "a 2 [z]");
+        desk.same("nothing stays of the run before", mill.out(), "a 2 [z]");
 
         desk.fails("a\n`b\nc", 32, 2);
         desk.fails("\n\n`a`b\n'\n\n", 32, 3);

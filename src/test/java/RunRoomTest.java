@@ -2,7 +2,7 @@
 public final class RunRoomTest {
     private static void input(Desk desk) {
         String head = "divert(-1)define(`a',`$1$1$1')a(" + "x".repeat(1000) + ")";
-        RescanMill mill = desk.gives(head + " ".repeat(29768), "");
+        Mill mill = desk.gives(head + " ".repeat(29768), "");
         desk.same("told(1) of a full input", mill.told(1), head.length() + 32768);
         desk.fails(head + " ".repeat(29769), 40, 1, head.length());
         desk.fails("\n" + head + " ".repeat(29768) + "\n", 40, 2, head.length() + 1);
@@ -49,7 +49,7 @@ public final class RunRoomTest {
 
     private static void meanings(Desk desk) {
         String three = "pushdef(`a',`')".repeat(300);
-        RescanMill mill = desk.gives(three, "");
+        Mill mill = desk.gives(three, "");
         desk.same("told(2) of 300 meanings", mill.told(2), 300);
         mill = desk.fails(three + "pushdef(`a',`x')", 40, 1);
         desk.same("told(2) of more than 300 meanings", mill.told(2), 300);
@@ -59,11 +59,10 @@ public final class RunRoomTest {
         desk.fails(three + "define(`b',`x')", 40, 1);
         desk.gives(three + "popdef(`a')define(`len',`x')len", "x");
         desk.gives(three + "undefine(`a')" + three + "popdef(`a')define(`b',`y')b", "y");
-        StringBuilder different = new StringBuilder();
-        for (int i = 0; i < 300; i++) {
-            different.append("define(`n").append(i).append("',`").append(i).append(";')");
-        }
-        desk.gives(different + "n0 n17 n299 n300", "0; 17; 299; n300");
+        String different = "define(`d',`define(`n'$1,``$1;'')ifelse($1,$2,,`d(incr($1),$2)')')";
+        mill = desk.gives(different + "d(0,298)n0 n17 n298 n299", "0; 17; 298; n299");
+        desk.same("told(2) of 300 different names", mill.told(2), 300);
+        desk.same("run with 301 different names", Desk.fed(different + "d(0,299)").run(Desk.MUCH), 40);
 
         String a = "define(`a',`" + "x".repeat(8191) + "')";
         String b = "define(`b',`" + "x".repeat(8191) + "')";

@@ -1,6 +1,6 @@
 /** Promise 6. */
 public final class ToldTest {
-    private static void all(Desk desk, String of, RescanMill mill, int... due) {
+    private static void all(Desk desk, String of, Mill mill, int... due) {
         for (int what = 0; what < 4; what++) {
             desk.same("told(" + what + ") of " + of, mill.told(what), due[what]);
         }
@@ -8,13 +8,13 @@ public final class ToldTest {
 
     public static void main(String[] args) {
         Desk desk = new Desk();
-        RescanMill mill = new RescanMill();
+        Mill mill = new Mill();
         int[] bad = {4, -1, 5, Integer.MIN_VALUE, Integer.MAX_VALUE};
         for (int what : bad) {
             desk.same("told(" + what + ")", mill.told(what), RescanMill.BAD);
         }
         all(desk, "no run", mill, 0, 0, 0, 0);
-        Desk.feed(mill, "define(`ab',`cde')pushdef(`ab',`f')pushdef(`len',)\nab");
+        mill.feedText("define(`ab',`cde')pushdef(`ab',`f')pushdef(`len',)\nab");
         all(desk, "no run yet", mill, 0, 0, 0, 0);
         mill.run(Desk.MUCH);
         all(desk, "three meanings", mill, 0, 54, 3, 11);

@@ -1,6 +1,6 @@
 import java.util.Random;
 
-/** Calls in any order and with any arguments: nothing is ever thrown, and each answer is the one due. */
+/** All 512 calls of an object, in any order and with any arguments: nothing is thrown, each answer is the one due. */
 public final class WildCallsTest {
     private static final int[] EDGES = {Integer.MIN_VALUE, -1, 0, 1, 2, 7, 8, 9, 4095, 4096, 32767, 32768, 32769,
         399999, 400000, 400001, Integer.MAX_VALUE};
@@ -9,7 +9,7 @@ public final class WildCallsTest {
 
     private final Random random;
     private final Desk desk;
-    private final RescanMill mill = new RescanMill();
+    private final Mill mill = new Mill();
     private String text = "";
     private PlainMill latest;
 
@@ -57,23 +57,22 @@ public final class WildCallsTest {
         boolean bad = fuel < 1 || fuel > 400000;
         latest = bad ? latest : new PlainMill(text, fuel);
         desk.same("run(" + fuel + ") of " + text, mill.run(fuel), bad ? -1 : latest.error);
-        String out = latest == null ? "" : latest.out;
-        desk.same("the out of " + text, Desk.outOf(mill), out);
+        for (int k = 0; k < 3; k++) {
+            ask();
+        }
     }
 
     private void ask() {
+        if (mill.left() < 3) {
+            return;
+        }
         int what = any(5);
         int[] told = latest == null ? new int[4]
                 : new int[] {latest.line, latest.taken, latest.meanings, latest.meaningBytes};
         desk.same("told(" + what + ")", mill.told(what), what < 0 || what > 3 ? -1 : told[what]);
         String out = latest == null ? "" : latest.out;
         int i = any(out.length() / 8 + 1);
-        long word = 0;
-        for (int k = 0; k < 8; k++) {
-            long place = 8L * i + k;
-            word |= place >= 0 && place < out.length() ? (long) out.charAt((int) place) << (8 * k) : 0;
-        }
-        desk.same("word(" + i + ")", mill.word(i), word);
+        desk.same("word(" + i + ")", mill.word(i), Mill.wordOf(out, i));
         desk.same("size()", mill.size(), out.length());
     }
 
@@ -105,9 +104,9 @@ public final class WildCallsTest {
 
     public static void main(String[] args) {
         Desk desk = new Desk();
-        for (int seed = 0; seed < 60; seed++) {
+        for (int seed = 0; seed < 150; seed++) {
             WildCallsTest wild = new WildCallsTest(seed, desk);
-            for (int k = 0; k < 400; k++) {
+            while (wild.mill.left() > 0) {
                 wild.call();
             }
         }
