@@ -140,7 +140,8 @@ final class Desk {
 
     void end() {
         endSentence();
-        System.out.println((sentences > 0 ? sentences + " sentences, " : "") + seen + " answers compared, " + wrong + " wrong");
+        String tested = sentences > 0 ? "sentences tested: " + sentences + "; " : "";
+        System.out.println(tested + seen + " answers compared, " + wrong + " wrong");
         if (wrong > 0 || seen == 0) {
             System.exit(1);
         }

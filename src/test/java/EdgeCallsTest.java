@@ -116,6 +116,8 @@ public final class EdgeCallsTest {
         desk.about("At most 50 calls are open at once (those without arguments are for a moment, and count likewise): error"
                 + " 34 DEEP, when the name has been taken, before its (.");
         desk.gives(FIFTY + ")".repeat(50), "1");
+        desk.gives("define(`f',`<$1$2$#>')" + "f(".repeat(50) + "a,b" + ")".repeat(50),
+                "<".repeat(50) + "ab2>" + "1>".repeat(49));
         desk.fails(FIFTY + "len()" + ")".repeat(50), 34, 1, 203);
         desk.fails(FIFTY + "len(", 34, 1, 203);
         desk.gives(FIFTY + "len" + ")".repeat(50), "1");
@@ -147,6 +149,9 @@ public final class EdgeCallsTest {
         desk.gives("define(`a')[a]pushdef(`b')[b]", "[][]");
         desk.gives("ifdef(`len',`y',`n',`m') ifdef(`x',`y',`n',`m') ifdef(`len')ifdef(`x',`y')ifdef(`x')ifdef()", "y n ");
         desk.gives("eval(1,x)incr(1,x)decr(1,x)len(a,bc)index(abc,c,d)substr(abc,1,1,x)", "12012b");
+        desk.gives("eval(1,2)incr(1,2)decr(1,2)len(1,2)index(212,1,2)substr(abc,1,1,1)", "12011b");
+        desk.gives("eval(1,+2)", "1");
+        desk.fails("eval(1+,2)", 38, 1);
         desk.gives("incr()decr()len()index()index(a)index(`',a)substr()substr(a)[shift()]", "1-1000-1a[]");
         desk.gives("divert(1,x)a`'divert(0,9)b", "ba");
         desk.gives("changequote([,],`(',9)[a]", "a");

@@ -65,11 +65,37 @@ public final class EdgeCuttingTest {
                 "1 1 2 3 3");
         desk.gives("index(aabaaabaaac,aabaaac) index(abacabab,abab) index(aaaaab,aab) index(ababa,bab) index(aabab,abb)",
                 "4 4 3 1 -1");
+        desk.gives("index(abbac,abac) index(aabbaab,aaba) index(abcabdabcabc,abcabc)", "-1 -1 6");
+        everyPlace(desk);
         String half = "a".repeat(8189);
         desk.gives("index(" + half + "," + half + ")", "0");
         desk.gives("index(" + half + "," + "a".repeat(8188) + "b)", "-1");
         desk.gives("index(" + "a".repeat(16377) + "b,b)", "16377");
         desk.gives("index(" + "a".repeat(12000) + "b," + "a".repeat(4000) + "b)", "8000");
+    }
+
+    /** All short rows of two bytes, each sought in all longer ones. */
+    private static void everyPlace(Desk desk) {
+        for (int whole = 0; whole < 128; whole++) {
+            StringBuilder text = new StringBuilder();
+            StringBuilder due = new StringBuilder();
+            for (int n = 1; n <= 4; n++) {
+                for (int part = 0; part < 1 << n; part++) {
+                    String sought = row(part, n);
+                    text.append("index(").append(row(whole, 7)).append(",").append(sought).append(") ");
+                    due.append(row(whole, 7).indexOf(sought)).append(" ");
+                }
+            }
+            desk.gives(text.toString(), due.toString());
+        }
+    }
+
+    private static String row(int bits, int n) {
+        StringBuilder row = new StringBuilder();
+        for (int k = 0; k < n; k++) {
+            row.append((bits >> k & 1) == 0 ? 'a' : 'b');
+        }
+        return row.toString();
     }
 
     private static void substr(Desk desk) {
@@ -113,6 +139,7 @@ public final class EdgeCuttingTest {
         desk.gives("a dnl b", "a ");
         desk.gives("dnl `\nc", "c");
         desk.gives("dnl #(\nc", "c");
+        desk.gives("dnl \0\u00ff\u0001\nc", "c");
         desk.gives("dnl(a\nb)c\nd", "d");
         desk.gives("dnl()c\nd", "d");
         desk.gives("define(`f',`1`'dnl 2\n3')f 4\n", "13 4\n");

@@ -85,6 +85,9 @@ public final class EdgeDiversionsTest {
         desk.gives("divert(1)a`'divert(2)b`'divert(-1)undivert`'divert(1)c", "c");
         desk.gives("divert(1)a`'divert(2)b`'divert(-1)undivert(2,5)divert(0)-", "-a");
         desk.gives("divert(1)a`'divert(0)len(undivert(1)bc)-", "a2-");
+        desk.gives("a`'divert(1)b`'undivert(0)c", "abc");
+        desk.gives("a`'divert(1)b`'undivert`'c", "abc");
+        desk.gives("a`'divert(-1)undivert(0)b", "a");
     }
 
     private static void areEmpty(Desk desk) {

@@ -43,6 +43,8 @@ public final class EdgeMeaningsTest {
         leaves(desk, "undefine(`undefine')undefine(`len')len(a)", "undefine(len)1", 0, 0);
         leaves(desk, "undefine(`dnl')dnl x\ny", "dnl x\ny", 0, 0);
         leaves(desk, "define(`a',`1')define(`ab',`2')undefine(`a')a ab", "a 2", 1, 3);
+        leaves(desk, "define(`Aa',`1')define(`BB',`2')undefine(`Aa')Aa BB", "Aa 2", 1, 3);
+        leaves(desk, "define(`Aa',`1')define(`BB',`2')undefine(`BB')Aa BB", "1 BB", 1, 3);
     }
 
     private static void popdef(Desk desk) {
@@ -55,6 +57,7 @@ public final class EdgeMeaningsTest {
         leaves(desk, "popdef(`x')popdef(`x',)popdef()popdef(`1 (')popdef(`')a", "a", 0, 0);
         leaves(desk, "define(`a',`1')popdef(`x',,`a')a", "a", 0, 0);
         leaves(desk, "popdef(`len')len(a)popdef(`len')", "len(a)", 0, 0);
+        leaves(desk, "pushdef(`Aa',`1')pushdef(`BB',`2')pushdef(`Aa',`3')popdef(`BB',`Aa')Aa BB", "1 BB", 1, 3);
         leaves(desk, "popdef(`popdef')popdef(`len')len(a)", "popdef(len)1", 0, 0);
     }
 

@@ -18,10 +18,16 @@ public final class EdgeRoomTest {
         desk.same("told(1) of a full input", mill.told(1), head.length() + INPUT);
         desk.fails(head + " ".repeat(INPUT - 2999), 40, 1, head.length());
         desk.fails("\n" + head + " ".repeat(INPUT - 3000) + "\n", 40, 2, 1 + head.length());
-        String eight = "define(`a',`$1$1$1$1$1$1$1$1')divert(-1)a(" + x(INPUT / 8) + ")";
-        desk.gives(eight, "");
+        String eight = "define(`a',`$1$1$1$1$1$1$1$1')a(" + x(INPUT / 8) + ")";
+        desk.gives(eight, x(INPUT));
         desk.fails(eight + ";", 40, 1, eight.length());
-        desk.fails(eight.replace("$1')", "$1.')"), 40, 1);
+        for (String more : new String[] {".", "$", "$0", "$1", "$#", "$*", "$@"}) {
+            desk.fails(eight.replace("$1')", "$1" + more + "')"), 40, 1);
+            desk.fails(eight.replace("`$1", "`" + more + "$1"), 40, 1);
+        }
+        for (String more : new String[] {"$2", "$9"}) {
+            desk.gives(eight.replace("$1')", "$1" + more + "')"), x(INPUT));
+        }
         desk.fails("define(`a',`a`'x')a", 40, 1, 10941);
         String shifted = "shift(" + ",".repeat(ARGUMENTS - 1) + ")";
         int given = 3 * (ARGUMENTS - 1) - 1;
@@ -83,6 +89,8 @@ public final class EdgeRoomTest {
         desk.fails(a + b + "define(`b',`" + x(half - 3) + "')define(`c',`xx')", 40, 1);
         desk.gives(a + b + "popdef(`a')define(`c',`" + x(half - 1) + "')", "");
         desk.fails(a + b + "undefine(`a')define(`c',`" + x(half) + "')", 40, 1);
+        desk.gives(a + b + "undefine(`a',`b')define(`c',`" + x(16000) + "')c", x(16000));
+        desk.gives(a + b + "undefine(`b',`a')define(`c',`" + x(16000) + "')c", x(16000));
     }
 
     /** A name is quoted, so that it is not called where it has a meaning already. */
@@ -145,6 +153,9 @@ public final class EdgeRoomTest {
                 "x;".repeat(8000) + rest);
         desk.gives("divert(1)" + full + "divert(-1)undivert(1)divert(2)a(" + "z;".repeat(2000) + ")", "z;".repeat(8000));
         desk.fails(full + rest + "`'divert(-1)divert(0)`y'", 40, 1, taken + 2 + 10 + 9 + 3);
+        String twoGone = "divert(1)" + one + "divert(2)a(" + "z;".repeat(2000) + ")divert(-1)undivert(1,2)divert(3)";
+        desk.gives(twoGone + "a(" + "y;".repeat(2000) + ")a(" + "z;".repeat(2000) + ")",
+                "y;".repeat(8000) + "z;".repeat(8000));
     }
 
     public static void main(String[] args) {

@@ -57,6 +57,31 @@ public final class EdgeRunTest {
             mill.run(16);
             desk.same("told(0) behind a run of " + text, mill.told(0), 1);
         }
+        behindOther(desk, "define(`a',`$1$1$1$1$1$1$1$1$1')a(" + "x".repeat(4096) + ")", 40, "len(a)", "1");
+        behindOther(desk, "len(" + "x".repeat(16000), 33, "len(" + "y".repeat(16381) + ")", "16381");
+        behindOther(desk, "len(" + ",".repeat(8000), 33, "len(" + ",".repeat(8191) + ")", "0");
+        behindOther(desk, "len(".repeat(50), 33, "len(".repeat(50) + ")".repeat(50), "1");
+        behindOther(desk, "eval(1/0)", 39, "eval(1)", "1");
+        behindOther(desk, "eval(" + "-(".repeat(15) + "1 1", 33, "eval(" + "(".repeat(30) + "1" + ")".repeat(31), "1");
+        behindOther(desk, "eval(`" + "-(".repeat(15) + "1 1')", 38, "eval(" + "(".repeat(30) + "1" + ")".repeat(31), "1");
+        behindOther(desk, "define(`a',`111')define(`b',`22')define(`c',`3')a b c", 0,
+                "define(`c',`4')define(`b',`55')define(`a',`666')a b c", "666 55 4");
+        behindOther(desk, "divert(1)" + "x".repeat(32000), 0, "y".repeat(32768), "y".repeat(32768));
+        String names = "define(`d',`define(`n'$1,`$1;')ifelse($1,298,,`d(incr($1))')')d(0)";
+        behindOther(desk, names, 0, names + "n0 n99 n298 n299", "0; 99; 298; n299");
+        behindOther(desk, names, 0, "n0 n99 n298 d", "n0 n99 n298 d");
+    }
+
+    private static void behindOther(Desk desk, String before, int error, String text, String out) {
+        Mill mill = Desk.fed(before);
+        desk.same("the run before", mill.run(Desk.MUCH), error);
+        mill.clear();
+        mill.feedText(text);
+        desk.same("run of " + text.length() + " bytes behind it", mill.run(Desk.MUCH), 0);
+        desk.same("size() of it", mill.size(), out.length());
+        for (int i = 0; i < 16; i++) {
+            desk.same("word(" + i + ") of it", mill.word(i), Mill.wordOf(out, i));
+        }
     }
 
     private static void errorEndsIt(Desk desk) {

@@ -43,6 +43,8 @@ public final class EdgeTokensTest {
         desk.gives("define(`a',`+')a _a a_ a9 9a aa Aa A a", "+ _a a_ a9 9+ aa Aa A +");
         desk.gives("define(`_',`+')_ __ _1 1_ a_", "+ __ _1 1+ a_");
         desk.gives("define(`Zz0_9',`+')Zz0_9 Zz0_ z0_9 Zz0_99", "+ Zz0_ z0_9 Zz0_99");
+        desk.gives("define(`Aa',`+')define(`BB',`-')Aa BB AA", "+ - AA");
+        desk.gives("define(`dvvrzrx',`+')wcjqgyvc define(`qqebcrhx',`-')zdbgais", "wcjqgyvc zdbgais");
         String longest = "n".repeat(16370);
         desk.gives("define(" + longest + ",`+')" + longest, "+");
         desk.gives("define(" + longest + ",`+')" + longest + "n", longest + "n");
@@ -72,9 +74,12 @@ public final class EdgeTokensTest {
         desk.fails(held, 32, 1);
         desk.fails(held + "')", 40, 1, held.length() + 1);
         Mill mill = Desk.fed(held + "')");
-        desk.same("run with fuel for most of the token", mill.run(held.length()), 31);
-        desk.fails("len(" + "n".repeat(16390) + " )", 40, 1, 4 + 16390);
-        desk.fails("len(#" + "n".repeat(16390) + "\n)", 40, 2, 4 + 16392);
+        desk.same("run with fuel for most of the quoted text", mill.run(held.length()), 31);
+        mill = desk.fails("len(" + "n".repeat(16390) + " )", 40, 1, 4 + 16390);
+        desk.same("run with fuel for most of the name", mill.run(4 + 16389), 31);
+        mill = desk.fails("len(#" + "n".repeat(16390) + "\n)", 40, 2, 4 + 16392);
+        desk.same("run with fuel for most of the remark", mill.run(4 + 16391), 31);
+        desk.same("run with fuel for less of the remark", mill.run(4 + 16390), 31);
         desk.gives("define(`a',`b')ab abc", "ab abc");
     }
 
@@ -102,6 +107,8 @@ public final class EdgeTokensTest {
         desk.gives("`a'", "a");
         desk.gives("a`'b", "ab");
         desk.gives("` \n#,()' ", " \n#,() ");
+        desk.gives("`\0\u00ff'", "\0\u00ff");
+        desk.gives("`" + "x".repeat(32766) + "'", "x".repeat(32766));
         desk.gives("changequote(<<<<,>>>>)<<<<<a>>>>>", "<a>");
         desk.gives("define(`a',`b')`a'a`a'", "aba");
     }
@@ -139,12 +146,17 @@ public final class EdgeTokensTest {
         desk.fails("len(#)", 33, 1);
         desk.fails("len(#)\n", 33, 2);
         desk.gives("`#'len(a)", "#1");
+        desk.gives("#\0\u00ff\n\0", "#\0\u00ff\n\0");
+        desk.gives("#" + "x".repeat(32766) + "`", "#" + "x".repeat(32766) + "`");
+        desk.gives("#" + "x".repeat(32766) + "\n", "#" + "x".repeat(32766) + "\n");
     }
 
     private static void singleBytes(Desk desk) {
         desk.about("the longest name; a single byte.");
         desk.gives("define(`a',`1')define(`ab',`2')define(`abc',`3')abcd abc ab a", "abcd 3 2 1");
         desk.gives("define(`a',`+')1a 12a 1.a$a-a", "1+ 12+ 1.+$+-+");
+        String longest = "n".repeat(4096);
+        desk.gives("define(`n',`+')define(`a',`$1$1$1$1$1$1$1$1')a(" + longest + ")", longest.repeat(8));
         for (char b = 0; b < 256; b++) {
             if (b != '`') {
                 desk.gives(String.valueOf(b), String.valueOf(b));
